@@ -183,7 +183,9 @@ public final class PromisesTest {
     private static void load() {
         promise = 5;
         LeftHands x = ring(3, 3);
+        x.stand(0, 0, 0);
         is(x.load(1, 0, 1, 0, 0, 0), 0);
+        is(x.status(), 0);
         is(x.load(9, 1, 1, 99, 9, 9999), 1);
         refused(x, x.load(0, 0, 1, 0, 0, 0), -1);
         refused(x, x.load(10, 0, 1, 0, 0, 0), -1);
@@ -343,6 +345,7 @@ public final class PromisesTest {
         refused(x, law(x, "    "), -6);
         is(x.fault(), 4);
         is(law(x, "  bars  "), 0);
+        is(x.status(), 0);
     }
 
     private static void faults() {
@@ -365,6 +368,8 @@ public final class PromisesTest {
         is(faultOf("fee -1"), 4);
         is(faultOf("fee 12e"), 6);
         is(faultOf("fee loads"), 4);
+        is(faultOf("fee loadz"), 4);
+        is(faultOf("fee aasks"), 4);
         is(faultOf("fee (1)"), 4);
         is(faultOf("fee 1\t"), 5);
         is(faultOf("fee 1\u00e9"), 5);
@@ -473,6 +478,9 @@ public final class PromisesTest {
         is(costBy("fee 1;fee 2 if 1=1 or 1=2 and 1=2"), 2);
         is(costBy("fee 1;fee 2 if (1=1 or 1=2) and 1=2"), 1);
         is(costBy("fee 1;fee 2 if not 1=1 or 1=1"), 2);
+        is(costBy("fee 1;fee 2 if not 3=3"), 1);
+        is(costBy("fee 1;fee 2 if not not 3=3"), 2);
+        is(costBy("fee 1;fee 2 if not 3=4"), 2);
         is(costBy("fee 1;fee 2 if 1000*1000*1000=1000*1000*1000"), 2);
         is(costBy("fee 1;fee 2 if 1000*1000*1000+1>0"), 1);
         is(costBy("fee 1;fee 2 if 0-1000*1000*1000<0"), 2);
@@ -612,6 +620,13 @@ public final class PromisesTest {
         is(w.day(1, 0), 2);
         w.force(NONE);
         is(w.day(0, 0), 3);
+        // Three of four ranks, and a law that bars nobody: who can't be held waits all the same.
+        LeftHands u = ringWithLaw("first haste*10-load;bars if minute>50", 9, 2, 9);
+        u.terms(1, 4);
+        int[] haste = {1, 3, 2, 3};
+        for (int i = 0; i < 4; i++) u.load(2, 0, 2, 0, haste[i], 0);
+        int[] due = {4, 1, 3, 2};
+        for (int i = 0; i < 4; i++) is(u.day(i, 0), due[i]);
         // Left is -1 where LEFT is not there.
         LeftHands v = new LeftHands();
         v.stand(1, 9, 0);
@@ -745,6 +760,8 @@ public final class PromisesTest {
         is(x.of(1, 1), 1);
         twoSwaps();
 
+        searchesInTime();
+
         promise = 23;
         x.put(1, 2, 33);
         is(x.swap(1, 4), 0);
@@ -797,6 +814,40 @@ public final class PromisesTest {
         is(y.swaps(3, 4), 2);
         is(y.swaps(1, 0), 1);
         is(y.swaps(1, 5), 1);
+    }
+
+    private static void searchesInTime() {
+        // Nothing goes on for a while, but a law that asks of time lets it go on later.
+        for (String text : new String[] {"bars if minute<9", "bars if waits<9", "first 0-waits;bars if not minute>8"}) {
+            LeftHands x = ringWithLaw(text, 5, 1, 5);
+            x.load(3, 0, 1, 0, 0, 0);
+            x.load(5, 2, 2, 3, 0, 0);
+            is(x.day(0, 0), 9);
+            is(x.swaps(3, 0), 0);
+            is(x.home(0), 0);
+            x.load(5, 0, 1, 0, 0, 0);
+            is(x.day(2, 0), text.startsWith("bars if waits") ? 19 : 10);
+            is(x.swaps(7, 0), 0);
+            x.terms(0, 9);
+            is(x.swaps(7, 0), NONE);
+            is(x.swaps(5, 5), 0);
+        }
+        // A late START sets going what stood still.
+        LeftHands y = ringWithLaw("bars if load=0 and minute=0", 5, 5, 5);
+        y.force(NONE);
+        y.load(5, 0, 2, 0, 0, 0);
+        y.load(1, 1, 1, 40, 0, 0);
+        y.load(1, 1, 2, 50, 0, 0);
+        is(y.swaps(7, 0), 0);
+        is(y.home(0), 0);
+        // In the first minute nothing goes on but the one that has COME, which lets the other go on.
+        LeftHands z = ring(5, 5, 5);
+        z.terms(1, 1);
+        z.load(1, 0, 2, 0, 0, 0);
+        z.load(1, 1, 2, 0, 0, 0);
+        is(z.day(0, 0), 2);
+        is(z.swaps(3, 0), 0);
+        is(z.home(0), 0);
     }
 
     private static void home() {
@@ -960,7 +1011,12 @@ public final class PromisesTest {
         x.force(1);
         is(x.answer(0, 1), 0);
         is(x.cost(0), 999);
+        is(law(x, "fee 20+load"), 2);
         x.load(1, 0, 1, 0, 0, 999);
+        x.force(2);
+        is(x.cost(0), 20);
+        is(x.cost(1), 21);
+        x.force(1);
         is(x.answer(0, 0), 0);
         is(x.answer(0, 1), 999);
         is(x.income(0), 999);
@@ -1022,6 +1078,89 @@ public final class PromisesTest {
         draws();
         images();
         counts();
+        askedAnew();
+    }
+
+    /** What was reckoned before a call that changes something is told anew behind it. */
+    private static void askedAnew() {
+        LeftHands x = new LeftHands();
+        x.stand(1, 5, 3);
+        x.load(1, 0, 0, 0, 0, 50);
+        promise = 2;
+        x.put(0, 0, 1);
+        is(x.swaps(1, 5), 1);
+        is(x.stand(2, 5, 4), 1);
+        promise = 5;
+        is(x.count(5), 0);
+        is(x.restless(), NONE);
+        is(x.load(1, 0, 1, 0, 0, 60), 1);
+        is(x.restless(), 0);
+        is(x.rests(0), 60);
+        is(x.home(0), 0);
+        is(x.day(1, 0), 0);
+        is(x.load(1, 1, 0, 0, 0, 60), 2);
+        is(x.day(2, 0), NONE);
+        is(x.home(0), NONE);
+        promise = 2;
+        is(x.stand(0, 5, 5), 2);
+        is(x.day(2, 0), 1);
+        is(x.home(0), 0);
+        is(x.home(2), 1);
+        promise = 3;
+        x.put(2, 1, 1);
+        x.put(1, 1, 1);
+        is(x.home(0), 0);
+        is(x.swaps(7, 0), 0);
+        x.put(0, 0, NONE);
+        is(x.home(0), NONE);
+        is(x.swaps(7, 0), NONE);
+        x.put(0, 0, 1);
+        promise = 7;
+        is(x.day(1, 0), 0);
+        is(x.rests(0), 60);
+        is(x.drop(1), 2);
+        is(x.day(1, 0), 1);
+        is(x.rests(0), 3);
+        promise = 11;
+        put(x, 2, 0, 1, 7, 0, 9);
+        is(x.count(4), 2);
+        is(x.row(), 1);
+        is(x.count(4), 3);
+        is(x.day(2, 0), 7);
+        promise = 8;
+        is(x.terms(0, 6), 60);
+        is(x.count(4), 2);
+        is(x.swaps(4, 0), NONE);
+        x.terms(0, 60);
+        promise = 15;
+        law(x, "bars;fee 9");
+        is(x.cost(2), 3);
+        is(x.rests(0), 9);
+        x.force(0);
+        is(x.count(4), 1);
+        is(x.cost(2), 9);
+        is(x.rests(0), 3);
+        is(x.swaps(4, 0), NONE);
+        is(x.home(0), NONE);
+        promise = 39;
+        x.image(0);
+        x.force(NONE);
+        is(x.count(4), 3);
+        is(x.home(0), 0);
+        is(x.swaps(4, 0), 0);
+        x.back(0);
+        is(x.count(4), 1);
+        is(x.home(0), NONE);
+        is(x.swaps(4, 0), NONE);
+        is(x.cost(2), 9);
+        x.force(NONE);
+        promise = 23;
+        is(x.day(2, 0), 7);
+        is(x.swaps(4, 0), 0);
+        is(x.swap(0, 1), 0);
+        is(x.day(2, 0), NONE);
+        is(x.swaps(4, 0), 1);
+        is(x.cost(2), 4);
     }
 
     private static void meet() {
@@ -1080,6 +1219,12 @@ public final class PromisesTest {
         is(x.drawn(0, 1), 12345 % 30);
         x.back(0);
         is(x.drawn(0, 1), 12345 % 30);
+        // A later one has fewer LOADS.
+        x.drop(0);
+        x.draw(0);
+        is(x.drawn(0, 1), 12345 % 30);
+        is(x.drawn(1, 1), NONE);
+        is(x.drawn(1, 0), NONE);
         LeftHands y = new LeftHands();
         y.stand(1, 2, 0);
         y.stand(NONE, 1, 0);
