@@ -1436,11 +1436,8 @@ public final class LeftHands {
         int chokingRound() {
             int stuck = 0;
             for (int l = 0; l < bazaar.loads; l++) {
-                int s = at[l];
-                int t = bazaar.hasStand(s) ? next[s] : NONE;
-                // The porter of the stand that it wants need not hold it.
-                if (t != NONE && t != bazaar.about(l, WANT) && !canHold(t, l)) {
-                    stuck |= 1 << s;
+                if (isStuck(l)) {
+                    stuck |= 1 << at[l];
                 }
             }
             for (int s = 0; s < bazaar.stands; s++) {
@@ -1450,6 +1447,22 @@ public final class LeftHands {
                 }
             }
             return 0;
+        }
+
+        /** Whether a load is held at the end because the porter at next can't hold it, and for nothing else. */
+        private boolean isStuck(int l) {
+            int s = at[l];
+            if (!bazaar.hasStand(s)) {
+                return false;
+            }
+            int t = next[s];
+            // The porter of the stand that it wants need not hold it.
+            if (t == NONE || t == bazaar.about(l, WANT) || canHold(t, l)) {
+                return false;
+            }
+            // The law was asked in the last minute, which is not yet one of those it had waited by then.
+            int waitsThen = Math.max(0, waits[l] - 1);
+            return judge.tells(Law.BARS, l, s, MINUTES - 1, waitsThen, strength[s], fee[s]) == 0;
         }
 
         private int roundOf(int s, int stuck) {

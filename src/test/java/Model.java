@@ -58,11 +58,12 @@ final class Model {
         }
     }
 
-    /** A day that was run: where[minute][load], come[load], waited[load]. */
+    /** A day that was run: where[minute][load], come[load], waited[load], barred[load] at the end. */
     private static final class Run {
         int[][] where = new int[100][];
         int[] come;
         int[] waited;
+        boolean[] barred;
         int[] last;
     }
 
@@ -466,6 +467,7 @@ final class Model {
         Run run = new Run();
         run.come = new int[n];
         run.waited = new int[n];
+        run.barred = new boolean[n];
         int[] where = new int[n];
         int[] waits = new int[n];
         Arrays.fill(run.come, NONE);
@@ -493,12 +495,14 @@ final class Model {
                 int s = where[l];
                 int t = next(s, home);
                 boolean barred = told("bars", ask(l, s, minute, waits[l], porters.get(s))) != null;
+                run.barred[l] = barred;
                 if (!barred && t != NONE && t == at.loads.get(l).want) {
                     run.come[l] = minute;
                     where[l] = NONE;
                 } else if (!barred && t != NONE && canHold(t, l, where, porters)) {
                     where[l] = t;
                     waits[l] = 0;
+                    run.barred[l] = told("bars", ask(l, t, minute, 0, porters.get(t))) != null;
                 } else {
                     waits[l]++;
                     run.waited[l]++;
@@ -559,7 +563,7 @@ final class Model {
         boolean[] stuck = new boolean[12];
         for (int l = 0; l < at.loads.size(); l++) {
             int s = run.last[l];
-            if (s == NONE) continue;
+            if (s == NONE || run.barred[l]) continue;
             int t = next(s, 0);
             if (t != NONE && t != at.loads.get(l).want && !canHold(t, l, run.last, at.porters)) stuck[s] = true;
         }

@@ -24,6 +24,7 @@ public final class ModelTest {
         for (int i = first; i < first + runs && test.wrong < 5; i++) {
             test.run(i);
             test.runSearches(i);
+            test.runJams(i);
         }
         System.out.println(test.asked + " answers held against the model, " + test.wrong + " wrong");
         if (test.wrong > 0) System.exit(1);
@@ -67,6 +68,46 @@ public final class ModelTest {
             same("choke()", LeftHands::choke, Model::choke);
             same("rests(-1)", x -> x.rests(-1), x -> x.rests(-1));
             change(draw(10));
+        }
+    }
+
+    /** Rings full of loads that are wanted elsewhere, under laws that bar some of them, some of the time. */
+    private void runJams(int number) {
+        run = number;
+        drawn = number * 15485863L + 3;
+        one = new LeftHands();
+        other = new Model();
+        told = new StringBuilder("# jams\n");
+        most = draw(1, 4);
+        ringed = true;
+        tight = true;
+        stands = 0;
+        while (stands < most) stand();
+        int elsewhere = most;
+        same("stand(0, 1, 0)", x -> x.stand(0, 1, 0), x -> x.stand(0, 1, 0));
+        for (int i = draw(2, 8); i > 0; i--) {
+            int weight = draw(1, 2);
+            int from = draw(most);
+            int start = draw(3) == 0 ? draw(96, 99) : 0;
+            same("load(" + weight + ", " + from + ", " + elsewhere + ", " + start + ", 0, 0)",
+                x -> x.load(weight, from, elsewhere, start, 0, 0), x -> x.load(weight, from, elsewhere, start, 0, 0));
+        }
+        for (int k = 0; k < 6; k++) {
+            lawOf("bars if " + jamTest() + (draw(2) == 0 ? " or " : " and ") + jamTest());
+            int law = k;
+            same("force(" + law + ")", x -> x.force(law), x -> x.force(law));
+            same("choke()", LeftHands::choke, Model::choke);
+        }
+    }
+
+    private String jamTest() {
+        String turned = draw(3) == 0 ? "not " : "";
+        switch (draw(5)) {
+            case 0: return turned + "minute" + "<>=".charAt(draw(3)) + draw(97, 100);
+            case 1: return turned + "waits" + "<>=".charAt(draw(3)) + (draw(2) == 0 ? draw(0, 3) : draw(96, 100));
+            case 2: return turned + "[minute+waits]/2*2=minute+waits";
+            case 3: return turned + "stand=" + draw(most);
+            default: return turned + "load" + "<>=".charAt(draw(3)) + draw(8);
         }
     }
 
@@ -161,7 +202,10 @@ public final class ModelTest {
             int i = draw(text.length());
             text = text.substring(0, i) + new String[] {"", "(", "]", " or ", "9", ";", "<", "x", "\u00e9", " "}[draw(10)] + text.substring(i + draw(2));
         }
-        if (text.length() > 400) text = text.substring(0, 400);
+        lawOf(text.length() > 400 ? text.substring(0, 400) : text);
+    }
+
+    private void lawOf(String text) {
         told.append("# ").append(text).append('\n');
         tape(Feeder.bytesOf(text));
         same("law()", LeftHands::law, Model::law);

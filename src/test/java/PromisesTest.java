@@ -722,6 +722,58 @@ public final class PromisesTest {
         is(w.choke(), 0);
         is(w.day(0, 3), 0);
         is(w.day(0, 2), 0);
+        chokeOfBarred();
+    }
+
+    private static LeftHands fullPair(String text) {
+        LeftHands x = ringWithLaw(text, 1, 1);
+        x.stand(0, 9, 0);
+        x.load(1, 0, 2, 0, 0, 0);
+        x.load(1, 1, 2, 0, 0, 0);
+        return x;
+    }
+
+    private static void chokeOfBarred() {
+        // What is BARRED is not held because the porter at NEXT can't HOLD it.
+        is(fullPair("first load").choke(), 3);
+        is(fullPair("bars").choke(), 0);
+        is(fullPair("bars if stand=1").choke(), 0);
+        is(fullPair("bars if load=0").choke(), 0);
+        is(fullPair("bars if load=2").choke(), 3);
+        is(fullPair("bars if 1/0=1").choke(), 3);
+        is(fullPair("bars if strength=1 and asks=2 and left=0").choke(), 0);
+        // It is asked as it was in the last minute.
+        is(fullPair("bars if minute<99").choke(), 3);
+        is(fullPair("bars if minute=99").choke(), 0);
+        is(fullPair("bars if minute>99").choke(), 3);
+        is(fullPair("bars if waits=98").choke(), 3);
+        is(fullPair("bars if waits=99").choke(), 0);
+        is(fullPair("bars if waits=100").choke(), 3);
+        // Another LOAD of the same STAND that is not BARRED chokes there all the same.
+        LeftHands x = ringWithLaw("bars if load=0", 2, 2);
+        x.stand(0, 9, 0);
+        for (int l = 0; l < 4; l++) x.load(1, l / 2, 2, 0, 0, 0);
+        is(x.choke(), 3);
+        law(x, "bars if load<2");
+        x.force(1);
+        is(x.choke(), 0);
+        x.force(NONE);
+        is(x.choke(), 3);
+        // One that came to its STAND in the last minute has not waited there.
+        is(cameLast("bars if minute<99").choke(), 7);
+        is(cameLast("bars if minute<99").where(0, 98), 0);
+        is(cameLast("bars if minute<99").where(0, 99), 1);
+        is(cameLast("bars if minute<99 or stand=1 and waits=0").choke(), 0);
+        is(cameLast("bars if minute<99 or stand=1 and waits>0").choke(), 7);
+    }
+
+    private static LeftHands cameLast(String text) {
+        LeftHands x = ringWithLaw(text, 2, 1, 2);
+        x.stand(0, 9, 0);
+        x.load(1, 0, 3, 0, 0, 0);
+        x.load(1, 0, 3, 0, 0, 0);
+        x.load(2, 2, 3, 0, 0, 0);
+        return x;
     }
 
     private static void searches() {
