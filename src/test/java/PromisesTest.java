@@ -1,67 +1,6 @@
 /** A test for each promise of the document: ordinary inputs, edges, wrong inputs. */
-public final class PromisesTest {
-    private static final int NONE = LeftHands.NONE;
-    private static int wrong = 0;
-    private static int promise = 0;
-    private static int asked = 0;
-
+public final class PromisesTest extends Checks {
     private PromisesTest() { }
-
-    private static void is(int got, int want) {
-        asked++;
-        if (got != want) {
-            wrong++;
-            StackTraceElement here = new Throwable().getStackTrace()[1];
-            System.out.println("promise " + promise + ", line " + here.getLineNumber() + ": answered " + got + ", due is " + want);
-        }
-    }
-
-    /** A call that is refused: its answer, and status() behind it. */
-    private static void refused(LeftHands x, int got, int why) {
-        asked++;
-        if (got != why || x.status() != why) {
-            wrong++;
-            StackTraceElement here = new Throwable().getStackTrace()[1];
-            System.out.println("promise " + promise + ", line " + here.getLineNumber() + ": answered " + got + ", status " + x.status() + ", due is " + why);
-        }
-    }
-
-    private static void put(LeftHands x, int... bytes) {
-        Feeder.put(new Feeder.Tape() {
-            public int feed(int a, int b, int c, int d, int e) {
-                return x.feed(a, b, c, d, e);
-            }
-
-            public int end(int n) {
-                return x.end(n);
-            }
-        }, x.count(6), bytes);
-    }
-
-    private static int law(LeftHands x, String text) {
-        put(x, Feeder.bytesOf(text));
-        return x.law();
-    }
-
-    private static int faultOf(String text) {
-        LeftHands x = new LeftHands();
-        law(x, text);
-        return x.fault();
-    }
-
-    /** A ring of stands, each with the next number at its left, the last with 0. */
-    private static LeftHands ring(int... strengths) {
-        LeftHands x = new LeftHands();
-        for (int i = 0; i < strengths.length; i++) x.stand((i + 1) % strengths.length, strengths[i], i + 1);
-        return x;
-    }
-
-    private static LeftHands ringWithLaw(String text, int... strengths) {
-        LeftHands x = ring(strengths);
-        is(law(x, text), 0);
-        is(x.force(0), NONE);
-        return x;
-    }
 
     public static void main(String[] args) {
         standsAndLoads();
@@ -72,14 +11,13 @@ public final class PromisesTest {
         searches();
         fees();
         rest();
-        System.out.println(asked + " answers, " + wrong + " wrong");
-        if (wrong > 0) System.exit(1);
+        end();
     }
 
     private static void standsAndLoads() {
         newObject();
         stand();
-        put();
+        putChanges();
         of();
         load();
         fact();
@@ -88,7 +26,7 @@ public final class PromisesTest {
     }
 
     private static void newObject() {
-        promise = 1;
+        promise(1);
         LeftHands x = new LeftHands();
         is(NONE, -1);
         int[] due = {0, 0, 0, 0, 0, 0, 0, 0, 0, 0, 0, 0, -1, 60, 2, -1, -1};
@@ -109,7 +47,7 @@ public final class PromisesTest {
     }
 
     private static void stand() {
-        promise = 2;
+        promise(2);
         LeftHands x = new LeftHands();
         is(x.stand(-1, 1, 0), 0);
         is(x.stand(11, 9, 99), 1);
@@ -130,8 +68,8 @@ public final class PromisesTest {
         is(x.count(0), 12);
     }
 
-    private static void put() {
-        promise = 3;
+    private static void putChanges() {
+        promise(3);
         LeftHands x = ring(3, 4);
         is(x.put(0, 0, -1), 1);
         is(x.status(), 0);
@@ -160,7 +98,7 @@ public final class PromisesTest {
     }
 
     private static void of() {
-        promise = 4;
+        promise(4);
         LeftHands x = new LeftHands();
         x.stand(1, 3, 7);
         is(x.of(0, 0), 1);
@@ -181,7 +119,7 @@ public final class PromisesTest {
     }
 
     private static void load() {
-        promise = 5;
+        promise(5);
         LeftHands x = ring(3, 3);
         x.stand(0, 0, 0);
         is(x.load(1, 0, 1, 0, 0, 0), 0);
@@ -209,7 +147,7 @@ public final class PromisesTest {
     }
 
     private static void fact() {
-        promise = 6;
+        promise(6);
         LeftHands x = ring(3, 3, 3);
         x.load(4, 1, 2, 50, 6, 700);
         int[] due = {4, 1, 2, 50, 6, 700};
@@ -221,7 +159,7 @@ public final class PromisesTest {
     }
 
     private static void drop() {
-        promise = 7;
+        promise(7);
         LeftHands x = ring(3, 3);
         for (int i = 1; i <= 4; i++) x.load(i, 0, 1, i, i, i * 10);
         is(x.drop(1), 3);
@@ -240,7 +178,7 @@ public final class PromisesTest {
     }
 
     private static void terms() {
-        promise = 8;
+        promise(8);
         LeftHands x = new LeftHands();
         is(x.terms(0, 0), 60);
         is(x.terms(0, 99), 0);
@@ -258,7 +196,7 @@ public final class PromisesTest {
     }
 
     private static void tapeAndLaws() {
-        promise = 9;
+        promise(9);
         LeftHands x = new LeftHands();
         is(x.feed(0x01020304, 0x05060708, -1, 0, 0), 20);
         is(x.count(6), 20);
@@ -275,7 +213,7 @@ public final class PromisesTest {
         is(y.row(), 1);
         for (int k = 0; k < 6; k++) is(y.fact(0, k), new int[] {9, 2, 1, 4, 5, 6}[k]);
 
-        promise = 10;
+        promise(10);
         is(x.end(401), NONE);
         is(x.end(-1), NONE);
         is(x.count(6), 400);
@@ -286,14 +224,14 @@ public final class PromisesTest {
         is(x.end(0), 0);
         is(x.count(6), 0);
 
-        row();
+        rowOfLoads();
         lawsTaken();
         faults();
         force();
     }
 
-    private static void row() {
-        promise = 11;
+    private static void rowOfLoads() {
+        promise(11);
         LeftHands x = ring(3, 3);
         put(x, 1, 0, 1, 5, 3, 200, 9, 1, 0, 99, 9, 255);
         is(x.row(), 2);
@@ -307,7 +245,7 @@ public final class PromisesTest {
         is(x.status(), 0);
         is(x.fact(2, 0), 2);
 
-        promise = 12;
+        promise(12);
         is(x.dropped(), 5);
         refused(x, x.row(), -6);
         is(x.dropped(), 5);
@@ -326,7 +264,7 @@ public final class PromisesTest {
     }
 
     private static void lawsTaken() {
-        promise = 13;
+        promise(13);
         LeftHands x = new LeftHands();
         for (int i = 0; i < 6; i++) is(law(x, "fee " + i), i);
         is(x.count(2), 6);
@@ -349,7 +287,7 @@ public final class PromisesTest {
     }
 
     private static void faults() {
-        promise = 14;
+        promise(14);
         String[] good = {"bars", "fee 1000", "fee 0001000", "first load", "first1", "first[[[[[[[[1]]]]]]]]",
             "bars if ((((((((1=1))))))))", "bars if (([[(1)]]=1))".replace("(1)", "[1]"), "bars if not not not 1<2",
             "fee load+weight-haste*stand/left+minute-waits*strength+asks", "bars;bars;fee 1;first 2 if 1>2",
@@ -414,7 +352,7 @@ public final class PromisesTest {
     }
 
     private static void force() {
-        promise = 15;
+        promise(15);
         LeftHands x = new LeftHands();
         is(x.force(NONE), NONE);
         is(x.status(), 0);
@@ -430,17 +368,6 @@ public final class PromisesTest {
         is(x.count(12), 0);
         is(x.force(NONE), 0);
         is(x.status(), 0);
-    }
-
-    /** What one law makes of the cost of load 0, from 0 to 1, its porter asking 7 and of strength 4. */
-    private static int costBy(String text) {
-        LeftHands x = new LeftHands();
-        x.stand(1, 4, 7);
-        x.stand(-1, 5, 8);
-        x.load(3, 0, 1, 9, 6, 50);
-        if (law(x, text) != 0) return -99;
-        x.force(0);
-        return x.cost(0);
     }
 
     // Terms II, as promise 15 puts laws in force: told by fees, which cost() shows.
@@ -490,7 +417,7 @@ public final class PromisesTest {
     }
 
     private static void ways() {
-        promise = 16;
+        promise(16);
         LeftHands x = ring(3, 3, 3, 3);
         x.put(3, 0, 1);
         x.load(1, 0, 3, 0, 0, 0);
@@ -513,7 +440,7 @@ public final class PromisesTest {
         is(whole.way(0, 11), 4);
         is(whole.way(0, 7), 0);
 
-        promise = 17;
+        promise(17);
         is(x.enter(3, 0), 15);
         is(x.enter(0, 0), 1);
         is(x.enter(3, 4), 8);
@@ -530,7 +457,7 @@ public final class PromisesTest {
     }
 
     private static void days() {
-        promise = 18;
+        promise(18);
         // Two at 0, strength for one at a time at 1: the lower number first, the other behind it.
         LeftHands x = ring(9, 2, 9);
         x.load(2, 0, 2, 0, 0, 0);
@@ -644,7 +571,7 @@ public final class PromisesTest {
     }
 
     private static void whereAndHeld() {
-        promise = 19;
+        promise(19);
         LeftHands x = ring(5, 5, 5, 5);
         x.load(2, 0, 3, 2, 0, 0);
         x.load(3, 1, 3, 1, 0, 0);
@@ -665,7 +592,7 @@ public final class PromisesTest {
         x.terms(1, 1);
         is(x.where(0, 99), 0);
 
-        promise = 20;
+        promise(20);
         LeftHands y = ring(9, 5, 9, 9);
         y.load(2, 0, 2, 0, 0, 0);
         y.load(3, 0, 2, 0, 0, 0);
@@ -684,7 +611,7 @@ public final class PromisesTest {
     }
 
     private static void choke() {
-        promise = 21;
+        promise(21);
         LeftHands x = ring(2, 2, 2);
         x.load(2, 0, 2, 0, 0, 0);
         x.load(2, 1, 0, 0, 0, 0);
@@ -777,7 +704,7 @@ public final class PromisesTest {
     }
 
     private static void searches() {
-        promise = 22;
+        promise(22);
         LeftHands x = new LeftHands();
         x.stand(1, 5, 0);
         x.stand(2, 1, 0);
@@ -814,7 +741,7 @@ public final class PromisesTest {
 
         searchesInTime();
 
-        promise = 23;
+        promise(23);
         x.put(1, 2, 33);
         is(x.swap(1, 4), 0);
         is(x.of(1, 1), 6);
@@ -903,7 +830,7 @@ public final class PromisesTest {
     }
 
     private static void home() {
-        promise = 24;
+        promise(24);
         // 0 -> 1 -> 2 -> 3 -> 4, weak ones between: all of 1, 2, 3 must go, which load 0 allows.
         LeftHands x = new LeftHands();
         for (int s = 0; s < 5; s++) x.stand(s + 1, s == 0 || s == 4 ? 5 : 1, 0);
@@ -957,7 +884,7 @@ public final class PromisesTest {
     }
 
     private static void fees() {
-        promise = 25;
+        promise(25);
         LeftHands x = new LeftHands();
         x.stand(1, 9, 10);
         x.stand(2, 9, 20);
@@ -973,7 +900,7 @@ public final class PromisesTest {
         is(x.cost(4), NONE);
         is(x.cost(-1), NONE);
 
-        promise = 26;
+        promise(26);
         is(x.sent(0), 1);
         is(x.sent(1), 0);
         is(x.sent(2), 0);
@@ -984,7 +911,7 @@ public final class PromisesTest {
         is(x.sent(0), 0);
         x.put(0, 2, 10);
 
-        promise = 27;
+        promise(27);
         is(x.income(0), 10);
         is(x.income(1), 20);
         is(x.income(2), 0);
@@ -993,7 +920,7 @@ public final class PromisesTest {
         x.put(1, 2, 19);
         is(x.income(1), 38);
 
-        promise = 28;
+        promise(28);
         is(x.answer(0, 0), 11);
         is(x.answer(0, 1), 11);
         is(x.answer(1, 0), 19);
@@ -1006,7 +933,7 @@ public final class PromisesTest {
         is(x.answer(-1, 0), NONE);
         is(x.of(0, 2), 10);
 
-        promise = 29;
+        promise(29);
         is(x.restless(), 0);
         x.put(0, 2, 11);
         is(x.restless(), NONE);
@@ -1020,7 +947,7 @@ public final class PromisesTest {
     }
 
     private static void rests() {
-        promise = 30;
+        promise(30);
         LeftHands x = new LeftHands();
         x.stand(1, 9, 10);
         x.stand(2, 9, 20);
@@ -1053,7 +980,7 @@ public final class PromisesTest {
     }
 
     private static void feesByLaw() {
-        promise = 28;
+        promise(28);
         // Beyond 10 he gets but 4: 10 is the lowest that brings most.
         LeftHands x = ringWithLaw("fee asks if asks<11;fee 4 if asks>10", 9, 9);
         x.load(1, 0, 1, 0, 0, 50);
@@ -1076,7 +1003,7 @@ public final class PromisesTest {
     }
 
     private static void rest() {
-        promise = 31;
+        promise(31);
         LeftHands x = ring(3, 2, 4, 1);
         x.load(5, 0, 3, 0, 0, 0);
         x.load(4, 1, 3, 0, 0, 0);
@@ -1091,7 +1018,7 @@ public final class PromisesTest {
         x.put(0, 0, NONE);
         is(x.pieces(0), NONE);
 
-        promise = 32;
+        promise(32);
         LeftHands y = ring(1, 1, 1, 1);
         refused(y, y.sign(0, -1), -1);
         refused(y, y.sign(9, 100), -1);
@@ -1104,12 +1031,12 @@ public final class PromisesTest {
         refused(y, y.sign(4, 0), -2);
         is(y.count(3), 8);
 
-        promise = 33;
+        promise(33);
         is(y.clear(), 8);
         is(y.clear(), 0);
         is(y.count(3), 0);
 
-        promise = 34;
+        promise(34);
         is(y.thieves(), 15);
         y.sign(1, 2);
         is(y.thieves(), 8);
@@ -1138,11 +1065,11 @@ public final class PromisesTest {
         LeftHands x = new LeftHands();
         x.stand(1, 5, 3);
         x.load(1, 0, 0, 0, 0, 50);
-        promise = 2;
+        promise(2);
         x.put(0, 0, 1);
         is(x.swaps(1, 5), 1);
         is(x.stand(2, 5, 4), 1);
-        promise = 5;
+        promise(5);
         is(x.count(5), 0);
         is(x.restless(), NONE);
         is(x.load(1, 0, 1, 0, 0, 60), 1);
@@ -1153,12 +1080,12 @@ public final class PromisesTest {
         is(x.load(1, 1, 0, 0, 0, 60), 2);
         is(x.day(2, 0), NONE);
         is(x.home(0), NONE);
-        promise = 2;
+        promise(2);
         is(x.stand(0, 5, 5), 2);
         is(x.day(2, 0), 1);
         is(x.home(0), 0);
         is(x.home(2), 1);
-        promise = 3;
+        promise(3);
         x.put(2, 1, 1);
         x.put(1, 1, 1);
         is(x.home(0), 0);
@@ -1167,24 +1094,24 @@ public final class PromisesTest {
         is(x.home(0), NONE);
         is(x.swaps(7, 0), NONE);
         x.put(0, 0, 1);
-        promise = 7;
+        promise(7);
         is(x.day(1, 0), 0);
         is(x.rests(0), 60);
         is(x.drop(1), 2);
         is(x.day(1, 0), 1);
         is(x.rests(0), 3);
-        promise = 11;
+        promise(11);
         put(x, 2, 0, 1, 7, 0, 9);
         is(x.count(4), 2);
         is(x.row(), 1);
         is(x.count(4), 3);
         is(x.day(2, 0), 7);
-        promise = 8;
+        promise(8);
         is(x.terms(0, 6), 60);
         is(x.count(4), 2);
         is(x.swaps(4, 0), NONE);
         x.terms(0, 60);
-        promise = 15;
+        promise(15);
         law(x, "bars;fee 9");
         is(x.cost(2), 3);
         is(x.rests(0), 9);
@@ -1194,7 +1121,7 @@ public final class PromisesTest {
         is(x.rests(0), 3);
         is(x.swaps(4, 0), NONE);
         is(x.home(0), NONE);
-        promise = 39;
+        promise(39);
         x.image(0);
         x.force(NONE);
         is(x.count(4), 3);
@@ -1206,7 +1133,7 @@ public final class PromisesTest {
         is(x.swaps(4, 0), NONE);
         is(x.cost(2), 9);
         x.force(NONE);
-        promise = 23;
+        promise(23);
         is(x.day(2, 0), 7);
         is(x.swaps(4, 0), 0);
         is(x.swap(0, 1), 0);
@@ -1216,7 +1143,7 @@ public final class PromisesTest {
     }
 
     private static void meet() {
-        promise = 35;
+        promise(35);
         LeftHands x = new LeftHands();
         x.stand(2, 1, 0);
         x.stand(3, 1, 0);
@@ -1242,7 +1169,7 @@ public final class PromisesTest {
     }
 
     private static void draws() {
-        promise = 36;
+        promise(36);
         LeftHands x = new LeftHands();
         x.stand(NONE, 5, 7);
         x.stand(0, 5, 99);
@@ -1257,7 +1184,7 @@ public final class PromisesTest {
         refused(x, x.draw(-1), -1);
         refused(x, x.draw(1000001), -1);
 
-        promise = 37;
+        promise(37);
         is(x.drawn(0, 0), 10);
         is(x.drawn(0, 1), 10);
         is(x.drawn(1, 0), NONE);
@@ -1296,7 +1223,7 @@ public final class PromisesTest {
     }
 
     private static void images() {
-        promise = 38;
+        promise(38);
         LeftHands x = ring(1, 2, 3);
         x.load(1, 0, 2, 0, 0, 50);
         x.sign(1, 1);
@@ -1308,7 +1235,7 @@ public final class PromisesTest {
         is(x.image(1), 0);
         is(x.status(), 0);
 
-        promise = 39;
+        promise(39);
         refused(x, x.back(0), -2);
         refused(x, x.back(2), -1);
         refused(x, x.back(-1), -1);
@@ -1364,7 +1291,7 @@ public final class PromisesTest {
     }
 
     private static void counts() {
-        promise = 40;
+        promise(40);
         LeftHands x = ring(2, 2, 2);
         x.load(2, 0, 2, 0, 0, 0);
         x.load(2, 1, 0, 0, 0, 0);
@@ -1405,7 +1332,7 @@ public final class PromisesTest {
         is(x.count(15), NONE);
         is(x.count(-1), NONE);
 
-        promise = 41;
+        promise(41);
         LeftHands y = new LeftHands();
         is(y.status(), 0);
         refused(y, y.stand(0, 0, 0), -1);
