@@ -112,6 +112,65 @@ abstract class Checks {
         return x;
     }
 
+    /** All that an object tells of what it keeps, the refusals left aside; some 150 calls. */
+    static String all(LeftHands x) {
+        StringBuilder told = new StringBuilder();
+        int[] counts = {0, 1, 2, 3, 4, 5, 6, 12, 13, 14};
+        for (int what : counts) told.append(x.count(what)).append(' ');
+        for (int s = 0; s < x.count(0); s++) {
+            for (int what = 0; what < 4; what++) told.append(x.of(s, what)).append(' ');
+        }
+        for (int l = 0; l < x.count(1); l++) {
+            for (int what = 0; what < 6; what++) told.append(x.fact(l, what)).append(' ');
+            told.append(x.drawn(l, 0)).append(' ').append(x.drawn(l, 1)).append(' ');
+        }
+        told.append(x.thieves()).append(' ').append(x.fault()).append(' ').append(x.dropped());
+        return told.toString();
+    }
+
+    interface Call {
+        int on(LeftHands x);
+    }
+
+    interface CallWith {
+        int on(LeftHands x, int value);
+    }
+
+    /** A call that is refused changes nothing but status() and the one count of such refusals. */
+    static void refusedAlone(LeftHands x, Call call, int why) {
+        String before = all(x);
+        int[] counts = new int[5];
+        for (int k = 0; k < 5; k++) counts[k] = x.count(7 + k);
+        refused(x, call.on(x), why);
+        same(all(x), before);
+        for (int k = 0; k < 5; k++) is(x.count(7 + k), counts[k] + (why == new int[] {-1, -2, -3, -5, -6}[k] ? 1 : 0));
+    }
+
+    /** Which numbers a call takes: those from low to high; the others are refused by a code. */
+    static void takes(LeftHands made, int low, int high, int why, CallWith call) {
+        made.image(0);
+        for (int value : around(low, high)) {
+            made.back(0);
+            int got = call.on(made, value);
+            if (value >= low && value <= high) is(made.status(), 0);
+            else refused(made, got, why);
+        }
+    }
+
+    /** For which numbers a call tells something: those from low to high; NONE for the others. */
+    static void tells(LeftHands x, int low, int high, CallWith call) {
+        for (int value : around(low, high)) {
+            int got = call.on(x, value);
+            boolean told = value >= low && value <= high;
+            if (told == (got == NONE)) fault("answered " + got + " for " + value);
+        }
+    }
+
+    private static int[] around(int low, int high) {
+        return new int[] {Integer.MIN_VALUE, low - 65536, low - 256, low - 2, low - 1, low, low + 1, (low + high) / 2,
+            high - 1, high, high + 1, high + 2, high + 256, high + 65536, Integer.MAX_VALUE};
+    }
+
     /** What one law makes of the cost of load 0, from 0 to 1, its porter asking 7 and of strength 4. */
     static int costBy(String text) {
         LeftHands x = new LeftHands();
