@@ -408,6 +408,18 @@ final class Calls extends Checks {
         is(x.held(2, 0, 0), 2);
         is(x.held(2, 0, 1), 7);
         is(new LeftHands().held(0, 0, 0), NONE);
+        // Of eight LOADS, in each minute up to the last.
+        LeftHands w = row(9, 9);
+        w.terms(1, 4);
+        w.put(0, 0, NONE);
+        for (int l = 0; l < 8; l++) w.load(1, l < 4 ? 0 : 1, 1 - l / 4, l < 4 ? 50 : 60, 0, 0);
+        int[][] held = {{49, 0, 0}, {50, 4, 0}, {59, 4, 0}, {60, 4, 4}, {98, 4, 4}, {99, 4, 4}};
+        for (int[] h : held) {
+            for (int what = 0; what < 2; what++) {
+                is(w.held(0, h[0], what), h[1]);
+                is(w.held(1, h[0], what), h[2]);
+            }
+        }
 
         says("The ROUND that CHOKES, as bits of STANDS. 0 without.");
         is(x.choke(), 0);

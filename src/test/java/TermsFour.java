@@ -198,6 +198,13 @@ final class TermsFour extends Checks {
         is(paying(5).rests(NONE), 1);
         is(paying(6).rests(NONE), 2);
         is(paying(6).rests(0), 6);
+        // All twelve, each for himself.
+        LeftHands w = new LeftHands();
+        for (int s = 0; s < 12; s++) w.stand((s + 1) % 12, 1, 50);
+        for (int s = 4; s < 12; s++) w.load(1, s, (s + 1) % 12, 0, 0, s);
+        is(w.rests(NONE), 2);
+        for (int s = 0; s < 12; s++) is(w.rests(s), s < 4 ? 50 : s);
+        is(w.restless(), 4);
         // The first takes all that there is; who gets nothing either way keeps his FEE.
         LeftHands x = row(9, 9, 9, 9);
         x.put(2, 2, 40);
@@ -343,6 +350,13 @@ final class TermsFour extends Checks {
             }
         }
         if (weakened < 5 || weakened > 43) fault("no fair draws: " + weakened);
+        // 1 less, not more: lighter ones by 1 come all the same.
+        for (int l = 0; l < 4; l++) {
+            x.drop(0);
+            x.load(1 + l, l, 4, 90, 0, 0);
+        }
+        x.terms(0, 99);
+        for (int seed = 0; seed < 20; seed++) is(x.draw(seed), 4);
         // By hand: 895 gives what is just below 1,000,003, 896 what is above.
         LeftHands y = row(5, 5);
         y.load(1, 0, 1, 90, 0, 0);
@@ -354,6 +368,7 @@ final class TermsFour extends Checks {
     }
 
     private static void drawnStrength() {
+        full();
         says("STRENGTH 1 less (1 at least)");
         LeftHands x = row(1, 1, 1);
         x.load(1, 0, 2, 90, 0, 0);
@@ -385,6 +400,25 @@ final class TermsFour extends Checks {
         y.terms(0, 90);
         is(y.swaps(1, 0), 0);
         is(y.home(0), 0);
+    }
+
+    // Twelve STANDS and eight LOADS: a DRAW for each, the last STAND's the twentieth.
+    private static void full() {
+        LeftHands x = row(5, 5, 5, 5, 5, 5, 5, 5, 5, 5, 5, 5);
+        x.put(11, 0, 0);
+        x.terms(0, 99);
+        for (int l = 0; l < 8; l++) x.load(l == 7 ? 5 : 1, l == 7 ? 11 : l, l == 7 ? 0 : 11, 90, 0, 0);
+        for (int seed = 0; seed < 12; seed++) {
+            long s = seed;
+            for (int l = 0; l < 7; l++) s = drawn(s);
+            s = drawn(s);
+            int start = (int) (s % 30);
+            for (int p = 0; p < 12; p++) s = drawn(s);
+            is(x.draw(seed), s % 3 == 0 ? 7 : 8);
+            is(x.drawn(7, 1), start);
+            is(x.drawn(7, 0), s % 3 == 0 ? NONE : start);
+            is(x.drawn(8, 1), NONE);
+        }
     }
 
     private static int[] join(int[]... rows) {
@@ -516,6 +550,47 @@ final class TermsFour extends Checks {
         return all.toString();
     }
 
+    // Twelve STANDS, eight LOADS, six LAWS, eight SIGNS of one kind and of another.
+    private static void fullImages() {
+        LeftHands x = new LeftHands();
+        x.image(0);
+        fill(x, 0);
+        x.image(1);
+        String[] kept = {everything(x), ""};
+        x.back(0);
+        is(x.count(0), 0);
+        fill(x, 1);
+        x.image(0);
+        kept[1] = everything(x);
+        for (int k = 0; k < 2; k++) {
+            x.back(1 - k);
+            same(everything(x), kept[k]);
+            for (int law = 0; law < 6; law++) {
+                x.force(law);
+                is(x.cost(0), (k == 0 ? 11 : 5) * (20 + 7 * law + k));
+            }
+        }
+    }
+
+    private static void fill(LeftHands x, int k) {
+        for (int s = 0; s < 12; s++) x.stand((s + 1 + k) % 12, 5 + k, 10 * k + s);
+        for (int l = 0; l < 8; l++) x.load(1 + (l + k) % 9, l + k, 11 - l, 2 * l + k, l + k, 100 * l + k);
+        for (int g = 0; g < 8; g++) x.sign(g + k, (1 + k) * (g + 9) % 12);
+        for (int law = 0; law < 6; law++) law(x, "fee 20+" + (7 * law + k));
+        x.force(k + 2);
+    }
+
+    private static String everything(LeftHands x) {
+        StringBuilder all = new StringBuilder();
+        for (int what = 0; what < 4; what++) all.append(x.count(what)).append(' ');
+        all.append(x.count(12)).append(' ').append(x.thieves()).append(' ');
+        for (int s = 0; s < 12; s++) all.append(x.of(s, 0)).append(' ').append(x.of(s, 1)).append(' ').append(x.of(s, 2)).append(' ');
+        for (int l = 0; l < 8; l++) {
+            all.append(x.fact(l, 0)).append(' ').append(x.fact(l, 1) * 12 + x.fact(l, 2)).append(' ').append(x.fact(l, 5)).append(' ');
+        }
+        return all.toString();
+    }
+
     private static void imagesStay() {
         says("BACK to one all that it keeps is as it was then (IMAGES stay).");
         LeftHands x = row(5, 5, 5);
@@ -564,6 +639,7 @@ final class TermsFour extends Checks {
         is(y.cost(0), 3);
         y.back(0);
         is(law(y, "fee 23"), 3);
+        fullImages();
         // An empty one.
         LeftHands z = new LeftHands();
         z.image(1);

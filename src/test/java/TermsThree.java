@@ -94,6 +94,20 @@ final class TermsThree extends Checks {
         x.drop(1);
         x.load(1, 0, 1, 0, 0, 0);
         homeIs(x, NONE, NONE, 0);
+        // Each of the LOADS, by its FROM and by its WANT.
+        int[][] others = {{2, 3}, {1, 2}};
+        for (int[] other : others) {
+            for (int first = 0; first < 3; first++) {
+                LeftHands v = row(5, 5, 1, 5, 5);
+                for (int l = 0; l < 3; l++) {
+                    if (l == first) v.load(1, other[0], other[1], 0, 0, 0);
+                    else v.load(3, 0, 4, 0, 0, 0);
+                }
+                homeIs(v, NONE, NONE, 0);
+                v.drop(first);
+                homeIs(v, 1, 4, 1);
+            }
+        }
     }
 
     private static void ways() {
@@ -591,6 +605,37 @@ final class TermsThree extends Checks {
         swapsAre(x, 1, 1, 1, 2, NONE, NONE, 3);
         x.terms(0, 10);
         swapsAre(x, 1, NONE, NONE, NONE, NONE, NONE, 0);
+        // From minute 0 on, by NOON 0.
+        LeftHands n = row(5, 5, 5);
+        n.load(1, 0, 1, 0, 0, 0);
+        n.load(1, 0, 2, 0, 0, 0);
+        n.terms(0, 0);
+        swapsAre(n, 1, 0, NONE, NONE, NONE, NONE, 1);
+        swapsAre(n, 2, NONE, NONE, NONE, NONE, NONE, 0);
+        n.terms(0, 1);
+        swapsAre(n, 3, 0, NONE, NONE, NONE, NONE, 1);
+        // In minute 1 nothing but that one COMES, and the other one goes on behind it.
+        LeftHands c = row(9, 9, 9, 9);
+        c.terms(1, 1);
+        c.load(1, 0, 3, 0, 0, 0);
+        c.load(1, 1, 3, 0, 0, 0);
+        lawInForce(c, "first 1 if load=1 and stand=1");
+        is(c.day(1, 0), 1);
+        is(c.day(0, 3), 1);
+        is(c.day(0, 0), 3);
+        swapsAre(c, 3, 0, NONE, NONE, NONE, NONE, 1);
+        homeIs(c, 0, 0, 1);
+        // Three that turn, either way round: three rows of pairs each.
+        int[][] turning = {{5, 4, 6}, {5, 6, 4}};
+        for (int[] t : turning) {
+            LeftHands y = row(t[0], t[1], t[2]);
+            y.stand(NONE, 1, 0);
+            for (int s = 0; s < 3; s++) y.put(s, 0, 3);
+            y.load(6, 0, 3, 0, 0, 0);
+            y.load(t[1] == 4 ? 5 : 4, 1, 3, 0, 0, 0);
+            y.load(t[1] == 4 ? 4 : 5, 2, 3, 0, 0, 0);
+            swapsAre(y, 7, 2, 0, 1, t[1] == 4 ? 0 : 1, 2, 3);
+        }
         // The last pair of all.
         LeftHands y = new LeftHands();
         for (int s = 0; s < 12; s++) y.stand(s == 10 ? 0 : NONE, s == 11 ? 9 : 1, 0);

@@ -44,6 +44,19 @@ final class TermsTwo extends Checks {
         refused(y, y.law(), -6);
         is(y.fault(), 400);
 
+        // Six of the longest, others in between that can't be: each is kept whole.
+        LeftHands w = row(9, 9);
+        w.load(1, 0, 1, 0, 0, 0);
+        for (int k = 0; k < 6; k++) {
+            refused(w, law(w, "fee " + times(50, "1", "*") + " if 1=1;"), -6);
+            is(law(w, "fee " + times(43, "1", "+") + "+" + k + " if not (0=1 or 1=0);bars if not 1=1"), k);
+        }
+        for (int k = 0; k < 6; k++) {
+            w.force(k);
+            is(w.cost(0), 43 + k);
+            is(w.day(0, 0), 0);
+        }
+
         says("one is in FORCE (NONE at first: no CLAUSE).");
         LeftHands z = row(9, 9);
         z.load(1, 0, 1, 0, 0, 0);
@@ -190,7 +203,14 @@ final class TermsTwo extends Checks {
         String[] signs = {"<", ">", "="};
         boolean[][] due = {{true, false, false}, {false, false, true}, {false, true, false}};
         for (int how = 0; how < 3; how++) {
-            for (int a = 4; a <= 6; a++) is(costBy("fee 1;fee 2 if " + a + signs[how] + "5"), due[how][a - 4] ? 2 : 1);
+            for (int a = 4; a <= 6; a++) {
+                String test = a + signs[how] + "5";
+                boolean so = due[how][a - 4];
+                is(costBy("fee 1;fee 2 if " + test), so ? 2 : 1);
+                is(costBy("fee 1;fee 2 if not " + test), so ? 1 : 2);
+                is(costBy("fee 1;fee 2 if not not " + test), so ? 2 : 1);
+                is(costBy("fee 1;fee 2 if not (" + test + " and 1=1)"), so ? 1 : 2);
+            }
         }
         is(costBy("fee 1;fee 2 if 2+3=10/2"), 2);
     }
@@ -250,7 +270,21 @@ final class TermsTwo extends Checks {
             is(faultOf("fee " + word.substring(0, word.length() - 1)), 4);
             is(faultOf(word + " 1"), 0);
         }
+        oneLetterOff();
         for (String word : new String[] {"first", "fee", "bars", "if", "not", "and", "or", "pay", "noon"}) is(faultOf("fee " + word), 4);
+    }
+
+    // A word is none, if any of its letters is another one.
+    private static void oneLetterOff() {
+        String[] texts = {"first 1", "fee 1", "bars if 1=1", "bars if not 1=1", "bars if 1=1 and 1=1", "bars if 1=1 or 1=1", "fee load", "fee weight",
+            "fee haste", "fee stand", "fee left", "fee minute", "fee waits", "fee strength", "fee asks"};
+        for (String text : texts) {
+            for (int i = 0; i < text.length(); i++) {
+                if (text.charAt(i) < 'a') continue;
+                int word = text.lastIndexOf(' ', i) + 1;
+                is(faultOf(text.substring(0, i) + 'x' + text.substring(i + 1)), word);
+            }
+        }
     }
 
     private static void bounds() {
