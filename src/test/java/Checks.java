@@ -11,13 +11,17 @@ abstract class Checks {
     private static int asked = 0;
     private static int wrong = 0;
 
+    static void about(String what) {
+        about = what;
+    }
+
     static void promise(int number) {
-        about = "promise " + number;
+        about("promise " + number);
     }
 
     /** The sentence of the document that the answers behind it must hold to. */
     static void says(String sentence) {
-        about = "\"" + sentence + "\"";
+        about("\"" + sentence + "\"");
         QUOTES.add(sentence);
     }
 

@@ -18,6 +18,7 @@ public final class SentencesTest extends Checks {
         String document = Files.readString(DOCUMENT);
         int from = document.indexOf("## Terms");
         int till = document.indexOf("## Not promised");
+        about("the quotes");
         for (String quote : QUOTES) {
             if (!told(document).contains(quote)) fault("the document does not say \"" + quote + "\"");
         }

@@ -21,6 +21,18 @@ public final class WildTest {
         return tame ? draw(4) : draw(3) == 0 ? (int) (drawn >>> 20) : EDGES[draw(EDGES.length)];
     }
 
+    private static LeftHands full() {
+        LeftHands x = Checks.ring(1, 2, 3, 4, 5, 6, 7, 8, 9, 1, 2, 3);
+        for (int l = 0; l < 8; l++) x.load(1 + draw(3), draw(12), draw(12), draw(100), draw(10), draw(300));
+        String[] laws = {"bars if minute<9 or waits>3", "first haste-waits;fee asks*2", "fee 1000/[load-stand]", "bars if left=0-1",
+            "first minute;bars if strength=asks", "fee weight*weight"};
+        for (String text : laws) Checks.law(x, text);
+        x.force(draw(7) - 1);
+        for (int k = 0; k < 8; k++) x.sign(draw(12), draw(100));
+        x.image(0);
+        return x;
+    }
+
     public static void main(String[] args) throws Exception {
         List<Method> calls = new ArrayList<>();
         for (Method m : LeftHands.class.getDeclaredMethods()) {
@@ -29,7 +41,7 @@ public final class WildTest {
         calls.sort((a, b) -> a.getName().compareTo(b.getName()));
         int made = 0;
         for (int run = 0; run < 60; run++) {
-            LeftHands x = new LeftHands();
+            LeftHands x = run % 2 == 0 ? new LeftHands() : full();
             for (int i = 0; i < 700; i++, made++) {
                 Method m = calls.get(draw(calls.size()));
                 boolean tame = draw(3) > 0;
